@@ -10,6 +10,7 @@ public final class ListTest {
         aCutOffOfficePaysItsListAlone();
         aListIsEmptyAfterwards();
         ordersLeaveTheList();
+        worksWithAllTheOrdersThereCanBe();
         CHECK.end();
     }
 
@@ -116,6 +117,15 @@ public final class ListTest {
         CHECK.same("back", x.about(98, 4), OrderMoney.NONE);
         x.order(0, 5, 90, 0, 7);
         CHECK.same("after they went back", x.list(0, Watch.numberOf(14)), 1);
+    }
+
+    private static void worksWithAllTheOrdersThereCanBe() {
+        OrderMoney x = orders(300);
+        x.list(5, Watch.numberOf(300));
+        x.cut(5, true);
+        CHECK.same("no more", x.cut(5, false), 1);
+        CHECK.same("the last order is on no list", x.about(Watch.numberOf(300), 4), OrderMoney.NONE);
+        CHECK.same("all go back", x.tick(51), 300);
     }
 
     private static OrderMoney orders(int count) {

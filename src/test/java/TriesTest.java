@@ -92,5 +92,7 @@ public final class TriesTest {
         CHECK.same("answer(100)", x.answer(100), 1);
         CHECK.same("answer(119)", x.answer(119), OrderMoney.STATE);
         CHECK.same("answer(99)", x.answer(99), OrderMoney.UNKNOWN);
+        CHECK.same("none such yet", x.answer(120), OrderMoney.NONE);
+        CHECK.same("none such by far", x.answer(219), OrderMoney.NONE);
     }
 }
