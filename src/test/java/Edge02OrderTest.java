@@ -10,6 +10,7 @@ public final class Edge02OrderTest implements Answers {
         centsInTheTerms();
         until();
         currencies();
+        currenciesInTheTerms();
         proofs();
         room();
         firstNumber();
@@ -90,6 +91,21 @@ public final class Edge02OrderTest implements Answers {
         x.order(0, 10, 9, 4, 0).is(OUTSIDE);
         x.order(0, 10, 9, Integer.MAX_VALUE, 0).is(OUTSIDE);
         x.till(0).is(40);
+    }
+
+    private static void currenciesInTheTerms() {
+        Edge x = new Edge(2, "a CURRENCY 0 .. 3");
+        for (int currency = 0; currency < 4; currency++) {
+            x.order(0, 1000, 9, currency, 0).is(Watch.numberOf(currency + 1));
+            x.set(2, currency, 2000 + currency).is(1);
+        }
+        // Each order goes by the rate of its own currency, the first and the last one too.
+        for (int currency = 0; currency < 4; currency++) {
+            x.about(Watch.numberOf(currency + 1), 5).is(2000 + currency);
+        }
+        x.order(0, 1000, 9, -1, 0).is(OUTSIDE);
+        x.order(0, 1000, 9, 4, 0).is(OUTSIDE);
+        x.all(0).is(4000);
     }
 
     private static void proofs() {

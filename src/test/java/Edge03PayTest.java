@@ -81,7 +81,7 @@ public final class Edge03PayTest implements Answers {
     }
 
     private static void aboveUntilAtTheEnds() {
-        Edge x = new Edge(3, NO_STATE);
+        Edge x = new Edge(3, "a time UNTIL when it is paid");
         x.order(0, 1, 0, 0, 0).is(12);
         x.order(0, 1, Long.MAX_VALUE, 0, 0).is(24);
         x.order(0, 1, Long.MAX_VALUE - 1, 0, 0).is(36);
@@ -146,7 +146,7 @@ public final class Edge03PayTest implements Answers {
     }
 
     private static void atMostOnce() {
-        Edge x = new Edge(3, "paid out at most once over all offices");
+        Edge x = new Edge(3, "An order is paid out: 1, or why not.");
         x.order(0, 10, 50, 0, 0).is(12);
         for (int office = 0; office < 8; office++) {
             x.set(0, office, 100);
@@ -211,6 +211,12 @@ public final class Edge03PayTest implements Answers {
         x.pay(0, 24, 0, 5).is(LIMITED);
         x.set(1, 0, 1).is(1);
         x.pay(0, 24, 0, 5).is(1);
+        // With more paid out than the limit now is, even a sum of 0 would be above it.
+        x.order(0, 1, 50, 1, 0).is(36);
+        x.set(1, 0, 0).is(1);
+        x.pay(0, 36, 0, 5).is(LIMITED);
+        x.set(1, 0, 1).is(1);
+        x.pay(0, 36, 0, 5).is(1);
     }
 
     private static void endOfADay() {

@@ -41,7 +41,7 @@ public final class Edge04FailsTest implements Answers {
     }
 
     private static void offices() {
-        Edge x = new Edge(4, "OUTSIDE");
+        Edge x = new Edge(4, "OUTSIDE.");
         x.fails(Integer.MIN_VALUE, 1).is(OUTSIDE);
         x.fails(-1, 1).is(OUTSIDE);
         x.fails(0, 1).is(1);

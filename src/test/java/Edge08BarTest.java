@@ -27,7 +27,7 @@ public final class Edge08BarTest implements Answers {
     }
 
     private static void unknownNumbers() {
-        Edge x = new Edge(8, "UNKNOWN");
+        Edge x = new Edge(8, "UNKNOWN, OUTSIDE (t below 0), STATE.");
         x.bar(12, 5).is(UNKNOWN);
         x.orders(1, 0, 50);
         x.bar(11, 5).is(UNKNOWN);
@@ -38,7 +38,7 @@ public final class Edge08BarTest implements Answers {
     }
 
     private static void openOnesAlone() {
-        Edge x = new Edge(8, "An open order is barred from t on: 1");
+        Edge x = new Edge(8, "UNKNOWN, OUTSIDE (t below 0), STATE.");
         x.orders(4, 0, 50);
         x.order(0, 1, 5, 0, 0).is(50);
         x.pay(0, 12, 0, 5).is(1);

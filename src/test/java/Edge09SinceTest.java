@@ -65,7 +65,7 @@ public final class Edge09SinceTest implements Answers {
     }
 
     private static void unknownNumbers() {
-        Edge x = new Edge(9, "UNKNOWN");
+        Edge x = new Edge(9, "UNKNOWN.");
         x.since(12).is(UNKNOWN);
         x.orders(1, 0, 50);
         x.since(11).is(UNKNOWN);

@@ -90,7 +90,7 @@ public final class Edge10ReplaceTest implements Answers {
     }
 
     private static void unknownNumbers() {
-        Edge x = new Edge(10, "UNKNOWN");
+        Edge x = new Edge(10, "UNKNOWN, STATE, ROOM.");
         x.replace(12).is(UNKNOWN);
         x.orders(1, 0, 50);
         x.replace(11).is(UNKNOWN);
@@ -102,7 +102,7 @@ public final class Edge10ReplaceTest implements Answers {
     }
 
     private static void room() {
-        Edge x = new Edge(10, "ROOM");
+        Edge x = new Edge(10, "UNKNOWN, STATE, ROOM.");
         x.orders(298, 0, 50);
         x.replace(12).is(2993);
         x.replace(24).is(3002);
@@ -117,7 +117,7 @@ public final class Edge10ReplaceTest implements Answers {
     }
 
     private static void roomForABarredOne() {
-        Edge x = new Edge(10, "ROOM");
+        Edge x = new Edge(10, "UNKNOWN, STATE, ROOM.");
         x.orders(300, 0, 50);
         x.list(5, 24).is(1);
         x.bar(12, 7).is(1);

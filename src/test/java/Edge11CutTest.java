@@ -14,7 +14,7 @@ public final class Edge11CutTest implements Answers {
     }
 
     private static void offices() {
-        Edge x = new Edge(11, "OUTSIDE");
+        Edge x = new Edge(11, "OUTSIDE.");
         x.cut(Integer.MIN_VALUE, true).is(OUTSIDE);
         x.cut(-1, true).is(OUTSIDE);
         x.cut(-1, false).is(OUTSIDE);

@@ -15,7 +15,7 @@ public final class Edge12ListTest implements Answers {
     }
 
     private static void offices() {
-        Edge x = new Edge(12, "OUTSIDE");
+        Edge x = new Edge(12, "UNKNOWN, OUTSIDE, STATE");
         x.orders(5, 0, 50);
         x.list(Integer.MIN_VALUE, 12).is(OUTSIDE);
         x.list(-1, 12).is(OUTSIDE);
@@ -33,7 +33,7 @@ public final class Edge12ListTest implements Answers {
     }
 
     private static void unknownNumbers() {
-        Edge x = new Edge(12, "UNKNOWN");
+        Edge x = new Edge(12, "UNKNOWN, OUTSIDE, STATE");
         x.list(0, 12).is(UNKNOWN);
         x.orders(1, 0, 50);
         x.list(0, 11).is(UNKNOWN);

@@ -53,7 +53,7 @@ public final class Edge13SetTest implements Answers {
     }
 
     private static void currencies() {
-        Edge x = new Edge(13, OUTSIDES);
+        Edge x = new Edge(13, "or a currency's rate (what 2, office: the currency): 1");
         for (int currency = 0; currency < 4; currency++) {
             x.order(0, 1000, 50, currency, 0).is(Watch.numberOf(currency + 1));
         }

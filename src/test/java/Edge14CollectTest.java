@@ -11,7 +11,7 @@ public final class Edge14CollectTest implements Answers {
     }
 
     private static void offices() {
-        Edge x = new Edge(14, "OUTSIDE");
+        Edge x = new Edge(14, "OUTSIDE, ROOM (100).");
         x.collect(Integer.MIN_VALUE, 5, 1).is(OUTSIDE);
         x.collect(-1, 5, 1).is(OUTSIDE);
         x.collect(0, 5, 1).is(1);
@@ -73,7 +73,7 @@ public final class Edge14CollectTest implements Answers {
     }
 
     private static void room() {
-        Edge x = new Edge(14, "ROOM (100)");
+        Edge x = new Edge(14, "OUTSIDE, ROOM (100).");
         for (int n = 1; n <= 98; n++) {
             x.collect(n % 8, 5, n).is(n);
         }
@@ -87,7 +87,7 @@ public final class Edge14CollectTest implements Answers {
     }
 
     private static void roomAfterPassing() {
-        Edge x = new Edge(14, "ROOM (100)");
+        Edge x = new Edge(14, "OUTSIDE, ROOM (100).");
         for (int n = 1; n <= 100; n++) {
             x.collect(0, 5, n).is(n);
         }

@@ -16,7 +16,7 @@ public final class Edge15PassTest implements Answers {
     }
 
     private static void days() {
-        Edge x = new Edge(15, "OUTSIDE");
+        Edge x = new Edge(15, "OUTSIDE.");
         x.collect(0, 5, 0).is(1);
         x.collect(0, 5, 9999).is(2);
         x.pass(Integer.MIN_VALUE).is(OUTSIDE);

@@ -61,7 +61,7 @@ public final class Edge16TickTest implements Answers {
     }
 
     private static void openOrBarredAlone() {
-        Edge x = new Edge(16, BACKS);
+        Edge x = new Edge(16, "Orders go BACK: how many");
         x.orders(4, 0, 50);
         x.set(0, 0, 100).is(1);
         x.pay(0, 12, 0, 5).is(1);

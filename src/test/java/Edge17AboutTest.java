@@ -13,7 +13,7 @@ public final class Edge17AboutTest implements Answers {
     }
 
     private static void whats() {
-        Edge x = new Edge(17, "OUTSIDE");
+        Edge x = new Edge(17, "UNKNOWN, OUTSIDE.");
         x.order(6, 77, 50, 0, 0).is(12);
         x.about(12, Integer.MIN_VALUE).is(OUTSIDE);
         x.about(12, -1).is(OUTSIDE);
@@ -28,7 +28,7 @@ public final class Edge17AboutTest implements Answers {
     }
 
     private static void unknownNumbers() {
-        Edge x = new Edge(17, "UNKNOWN");
+        Edge x = new Edge(17, "UNKNOWN, OUTSIDE.");
         x.about(12, 0).is(UNKNOWN);
         x.orders(2, 0, 50);
         for (int what = 0; what <= 5; what++) {

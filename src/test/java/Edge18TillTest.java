@@ -8,7 +8,7 @@ public final class Edge18TillTest implements Answers {
     }
 
     private static void offices() {
-        Edge x = new Edge(18, "OUTSIDE");
+        Edge x = new Edge(18, "OUTSIDE.");
         for (int office = 0; office < 8; office++) {
             x.set(0, office, 100 + office).is(1);
         }
@@ -22,7 +22,7 @@ public final class Edge18TillTest implements Answers {
     }
 
     private static void aboveAnInt() {
-        Edge x = new Edge(18, "An office's till");
+        Edge x = new Edge(18, "An office's till.");
         x.set(0, 4, 1000000000).is(1);
         x.set(0, 4, 1000000000).is(1);
         x.set(0, 4, 147483647).is(1);
@@ -38,7 +38,7 @@ public final class Edge18TillTest implements Answers {
     }
 
     private static void downToNothing() {
-        Edge x = new Edge(18, "An office's till");
+        Edge x = new Edge(18, "An office's till.");
         x.order(4, 2, 50, 0, 0).is(12);
         x.till(4).is(2);
         x.set(0, 4, -1).is(1);

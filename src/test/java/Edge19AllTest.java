@@ -219,7 +219,7 @@ public final class Edge19AllTest implements Answers {
     }
 
     private static void suspectByTries() {
-        Edge x = new Edge(19, SUSPECT);
+        Edge x = new Edge(19, "7 SUSPECT ones");
         x.orders(4, 0, 50);
         x.pay(0, 12, 0, 5).is(1);
         x.pay(0, 24, 0, 5).is(1);
