@@ -86,7 +86,7 @@ public final class OrderMoney {
         if (asked - served >= MOST_WAITING) {
             return ROOM;
         }
-        tries[asked % TRIES_KEPT] = new Try(office, number, proof, t);
+        tries[placeOfTry(asked)] = new Try(office, number, proof, t);
         return asked++;
     }
 
@@ -96,7 +96,7 @@ public final class OrderMoney {
         }
         int most = Math.min(n, asked - served);
         for (int i = 0; i < most; i++) {
-            Try next = tries[served % TRIES_KEPT];
+            Try next = tries[placeOfTry(served)];
             served++;
             if (next != null) {
                 next.cameTo = pay(next.office, next.number, next.proof, next.t);
@@ -109,7 +109,7 @@ public final class OrderMoney {
         if (trial < 0 || trial >= asked || trial < asked - TRIES_KEPT) {
             return NONE;
         }
-        Try kept = tries[trial % TRIES_KEPT];
+        Try kept = tries[placeOfTry(trial)];
         return kept == null ? NONE : kept.cameTo;
     }
 
@@ -286,6 +286,11 @@ public final class OrderMoney {
 
     private static long placeOf(Office office) {
         return office == null ? NONE : office.place;
+    }
+
+    // Lies in the row for every int, also for a count that has run over after more calls than promised.
+    private static int placeOfTry(int trial) {
+        return Math.floorMod(trial, TRIES_KEPT);
     }
 
     private static boolean isOrderable(long cents) {

@@ -1,6 +1,10 @@
 import java.io.IOException;
 import java.nio.file.Files;
 import java.nio.file.Path;
+import java.util.Set;
+import java.util.TreeSet;
+import java.util.regex.Matcher;
+import java.util.regex.Pattern;
 
 /** The document's text, so that a test that quotes a sentence of it is known to quote it rightly. */
 final class Document {
@@ -14,6 +18,31 @@ final class Document {
     static boolean says(int promise, String words) {
         return part("# OrderMoney", "## Promise 1:").contains(words)
             || part("## Promise " + promise + ":", "## ").contains(words);
+    }
+
+    /** The methods of the public face, each as "int pay(int,long,int,long)". */
+    static Set<String> methods() {
+        Set<String> methods = new TreeSet<>();
+        Matcher matcher = Pattern.compile("public (\\w+ \\w+)\\((.*)\\);").matcher(face());
+        while (matcher.find()) {
+            String types = matcher.group(2).replaceAll("(\\w+) \\w+", "$1").replace(", ", ",");
+            methods.add(matcher.group(1) + "(" + types + ")");
+        }
+        return methods;
+    }
+
+    /** The constants of the public face, each as "NONE=-1". */
+    static Set<String> constants() {
+        Set<String> constants = new TreeSet<>();
+        Matcher matcher = Pattern.compile("(\\w+) = (-\\d+)").matcher(face());
+        while (matcher.find()) {
+            constants.add(matcher.group(1) + "=" + matcher.group(2));
+        }
+        return constants;
+    }
+
+    private static String face() {
+        return part("## The public face", "## Terms");
     }
 
     private static String part(String from, String to) {

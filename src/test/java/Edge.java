@@ -3,12 +3,13 @@ import java.util.List;
 import java.util.function.ToLongFunction;
 
 /**
- * A sentence of the document that names a boundary case, and one object on which it is tried.
+ * A sentence of the document, a boundary case that it names mostly, and one object on which it is tried.
  * At the end each run is made again without its refused calls: as those change nothing, all
  * other answers must be the same ones.
  */
 final class Edge {
     private static final int MOST_CALLS = 512;
+    private static final int CALLS_FOR_A_BALANCE = Watch.OFFICES + 6;
     private static final List<Edge> ALL = new ArrayList<>();
     private static int wrong;
 
@@ -16,6 +17,7 @@ final class Edge {
     private final OrderMoney money = new OrderMoney();
     private final List<Call> unrefused = new ArrayList<>();
     private int calls;
+    private boolean isTooLong;
 
     private record Call(String text, ToLongFunction<OrderMoney> body, long came) {
     }
@@ -137,9 +139,16 @@ final class Edge {
         return call(text("all", what), x -> x.all(what));
     }
 
+    /** The tills in all, less what came into them, and what went out of them: 0 if they balance. */
+    Answer balance() {
+        calls += CALLS_FOR_A_BALANCE - 1;
+        return call("the balance", Watch::balance);
+    }
+
     private Answer call(String text, ToLongFunction<OrderMoney> body) {
         calls++;
-        if (calls == MOST_CALLS + 1) {
+        if (calls > MOST_CALLS && !isTooLong) {
+            isTooLong = true;
             tell("the test makes more calls than the document promises an answer to");
         }
         long came = body.applyAsLong(money);

@@ -26,10 +26,16 @@ public final class FaceTest {
         "\\b(throw|throws|try|catch|finally|synchronized|assert|import|package|Exact|volatile|native)\\b|->|::");
 
     public static void main(String[] args) throws IOException, IllegalAccessException {
+        looksAtTheDocument();
         looksAtMembers();
         looksAtInnerClasses();
         looksAtWords();
         CHECK.end();
+    }
+
+    private static void looksAtTheDocument() {
+        CHECK.holds("the document's methods are " + Document.methods(), Document.methods().equals(METHODS));
+        CHECK.holds("the document's constants are " + Document.constants(), Document.constants().equals(CONSTANTS));
     }
 
     private static void looksAtMembers() throws IllegalAccessException {
