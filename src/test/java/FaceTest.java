@@ -23,7 +23,7 @@ public final class FaceTest {
         "NONE=-1", "UNKNOWN=-101", "OUTSIDE=-102", "STATE=-103", "ROOM=-104",
         "WRONG=-105", "LIMITED=-106", "POOR=-107", "FAILED=-108");
     private static final Pattern LEFT_OUT = Pattern.compile(
-        "\\b(throw|throws|try|catch|finally|synchronized|assert|import|package|Exact|volatile|native)\\b|->|::");
+        "\\b(throw|throws|try|catch|finally|synchronized|assert|import|package|\\w+Exact|volatile|native)\\b|->|::");
 
     public static void main(String[] args) throws IOException, IllegalAccessException {
         looksAtTheDocument();

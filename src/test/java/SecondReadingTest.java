@@ -19,8 +19,8 @@ public final class SecondReadingTest {
         {12, 8, 2, 1, 1, 1, 1, 1, 1, 4, 24, 3, 0, 0, 1, 8, 1, 2},
         {16, 3, 1, 0, 0, 0, 6, 6, 6, 1, 3, 6, 1, 1, 8, 10, 4, 4}};
     private static final long[] WILD = {
-        Long.MIN_VALUE, -1000000001L, -1000000000L, -86400, -2, -1, 0, 1, 7, 8, 12, 13, 300, 9999, 10000, 100000, 100001,
-        500000, 500001, 1000000000L, 1000000001L, Integer.MAX_VALUE, 4294967308L, Long.MAX_VALUE};
+        Long.MIN_VALUE, -1000000001L, -1000000000L, -86400, -2, -1, 0, 1, 7, 8, 9, 12, 13, 300, 9999,
+        10000, 100000, 100001, 500000, 500001, 1000000000L, 1000000001L, Integer.MAX_VALUE, 4294967308L, Long.MAX_VALUE};
 
     private final String name;
     private final int[] weights;
@@ -164,7 +164,13 @@ public final class SecondReadingTest {
     }
 
     private long time() {
-        return isWild() ? WILD[random.nextInt(WILD.length)] : random.nextInt((int) ((isNarrow ? 2 : 5) * Answers.DAY));
+        if (isWild()) {
+            return WILD[random.nextInt(WILD.length)];
+        }
+        int days = isNarrow ? 2 : 5;
+        boolean isAtADaysEnd = random.nextInt(4) == 0;
+        return isAtADaysEnd ? (1 + random.nextInt(days)) * Answers.DAY - random.nextInt(2)
+            : random.nextInt((int) (days * Answers.DAY));
     }
 
     private long number() {
